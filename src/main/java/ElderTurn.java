@@ -9,6 +9,8 @@ public final class ElderTurn {
     private static final int NEVER = -2;
     private static final int UNBORN_AGE = -100;
     private static final int NO_SUM = -10000;
+    /** Above all that is ever counted here. */
+    private static final int ENDLESS = 1000000000;
 
     private static final int NO_SUCH = 1;
     private static final int BAD_NUMBER = 2;
@@ -337,7 +339,7 @@ public final class ElderTurn {
             return refuse(NOTHING);
         }
         int best = NONE;
-        int least = Integer.MAX_VALUE;
+        int least = ENDLESS;
         for (int p = 0; p < people; p++) {
             for (int q = p + 1; q < people; q++) {
                 int harm = harmOfTrade(p, q);
@@ -1006,7 +1008,7 @@ public final class ElderTurn {
         }
 
         private int fewestTurns(int set) {
-            int least = Integer.MAX_VALUE;
+            int least = ENDLESS;
             int those = 0;
             for (int p = 0; p < world.told.people; p++) {
                 int count = world.told.person[p][KIND] == KEEN ? turns[p] - 1 : turns[p];
@@ -1025,7 +1027,7 @@ public final class ElderTurn {
         /** The eldest by sign 1, the youngest by sign -1. */
         private int byAge(int set, int sign) {
             int best = NOBODY;
-            int least = Integer.MAX_VALUE;
+            int least = ENDLESS;
             for (int p = 0; p < world.told.people; p++) {
                 int born = sign * world.told.person[p][BORN];
                 if ((set >> p & 1) != 0 && born < least) {
@@ -1138,7 +1140,7 @@ public final class ElderTurn {
                 return 0;
             }
             int most = 0;
-            int least = Integer.MAX_VALUE;
+            int least = ENDLESS;
             for (int p = 0; p < world.told.people; p++) {
                 if (has(there, p)) {
                     most = Math.max(most, turns[p]);
@@ -1343,7 +1345,7 @@ public final class ElderTurn {
                 return leastHarms[n];
             }
             isFound[n] = true;
-            leastHarms[n] = Integer.MAX_VALUE;
+            leastHarms[n] = ENDLESS;
             clearWishes();
             boolean goesOn = true;
             for (int i = 0; i < MOST_ROWS && goesOn; i++) {
@@ -1495,13 +1497,14 @@ public final class ElderTurn {
         private int start = 0;
         private int length = 0;
         private int value = 0;
-        private int taken = 0;
+        private int latestName = 0;
         private int names = 0;
         private final int[] nameStart = new int[NAME_ROOM];
         private final int[] nameLength = new int[NAME_ROOM];
         private final int[] nameNumber = new int[NAME_ROOM];
         private final boolean[] isSecretName = new boolean[NAME_ROOM];
-        private final int[] head = new int[HEAD_PARTS];
+        /** What a line tells, where it has no row of its own in the family. */
+        private final int[] heads = new int[HEAD_PARTS];
 
         void putBytes(int four) {
             for (int shift = 24; shift >= 0 && taped < TAPE_ROOM; shift -= 8) {
@@ -1661,8 +1664,7 @@ public final class ElderTurn {
             return true;
         }
 
-        /** Looks only, as a fault may still be met at the name itself. */
-        private boolean findName(boolean ofSecret) {
+        private boolean takeName(int[] into, int part, boolean ofSecret) {
             if (kind != WORD || seenLine() >= 0) {
                 return fail(FORM);
             }
@@ -1670,17 +1672,17 @@ public final class ElderTurn {
             if (name < 0 || isSecretName[name] != ofSecret) {
                 return fail(UNTOLD);
             }
-            taken = nameNumber[name];
+            into[part] = nameNumber[name];
+            latestName = start;
+            advance();
             return true;
         }
 
-        private boolean takePersonInto(int[] into, int part) {
-            if (!findName(false)) {
-                return false;
-            }
-            into[part] = taken;
-            advance();
-            return true;
+        /** A fault of the latest name, that shows only when it is held against what was told ahead. */
+        private boolean failAtName(int number) {
+            wrong = number;
+            place = latestName;
+            return false;
         }
 
         // -- lines
@@ -1756,14 +1758,14 @@ public final class ElderTurn {
         }
 
         private boolean readFamily() {
-            if (!takeWord("years") || !takeWhole(head, YEARS, 4, YEAR_ROOM)
-                    || !takeWord("law") || !takeChoice(head, LAW, seenLaw())
-                    || !takeWord("fare") || !takeWhole(head, FARE, 0, 99)) {
+            if (!takeWord("years") || !takeWhole(heads, YEARS, 4, YEAR_ROOM)
+                    || !takeWord("law") || !takeChoice(heads, LAW, seenLaw())
+                    || !takeWord("fare") || !takeWhole(heads, FARE, 0, 99)) {
                 return false;
             }
-            told.years = head[YEARS];
-            told.law = head[LAW];
-            told.fare = head[FARE];
+            told.years = heads[YEARS];
+            told.law = heads[LAW];
+            told.fare = heads[FARE];
             return true;
         }
 
@@ -1834,8 +1836,8 @@ public final class ElderTurn {
         }
 
         private boolean readPlan(int[] plan) {
-            if (!takePersonInto(plan, OWNER) || !takeWhole(plan, FROM, 0, told.years - 1) || !takeWord("to")
-                    || !takeWhole(plan, TO, plan[FROM], told.years - 1)
+            if (!takeName(plan, OWNER, false) || !takeWhole(plan, FROM, 0, told.years - 1)
+                    || !takeWord("to") || !takeWhole(plan, TO, plan[FROM], told.years - 1)
                     || !takeWord("harm") || !takeWhole(plan, HARM, 1, 99)) {
                 return false;
             }
@@ -1844,26 +1846,25 @@ public final class ElderTurn {
         }
 
         private boolean readDies() {
-            if (!findName(false)) {
+            if (!takeName(heads, 0, false)) {
                 return false;
             }
-            int[] of = told.person[taken];
+            int[] of = told.person[heads[0]];
             if (of[DIES] != NEVER) {
-                return fail(AGAIN);
+                return failAtName(AGAIN);
             }
-            advance();
             return takeWhole(of, DIES, 0, told.years - 1);
         }
 
         private boolean readBuys(int[] buy) {
-            if (!takeWhole(buy, WHEN, 0, told.years - 1) || !takePersonInto(buy, SELLER) || !findName(false)) {
+            if (!takeWhole(buy, WHEN, 0, told.years - 1) || !takeName(buy, SELLER, false)
+                    || !takeName(buy, BUYER, false)) {
                 return false;
             }
-            if (taken == buy[SELLER]) {
-                return fail(AGAIN);
+            if (buy[BUYER] == buy[SELLER]) {
+                return failAtName(AGAIN);
             }
-            if (!takePersonInto(buy, BUYER) || !takeWord("price")
-                    || !takeWhole(buy, PRICE, 0, MOST_PRICE)) {
+            if (!takeWord("price") || !takeWhole(buy, PRICE, 0, MOST_PRICE)) {
                 return false;
             }
             told.buys++;
@@ -1871,7 +1872,7 @@ public final class ElderTurn {
         }
 
         private boolean readSecret() {
-            if (!takeNewName(true, told.secrets) || !takePersonInto(told.knower, told.secrets)) {
+            if (!takeNewName(true, told.secrets) || !takeName(told.knower, told.secrets, false)) {
                 return false;
             }
             told.secrets++;
@@ -1879,31 +1880,22 @@ public final class ElderTurn {
         }
 
         private boolean readHides() {
-            if (!findName(false)) {
+            if (!takeName(heads, 0, false) || !takeName(heads, 1, true) || !takeName(heads, 2, false)) {
                 return false;
             }
-            int hider = taken;
-            advance();
-            if (!findName(true)) {
-                return false;
+            int hidden = heads[0] * SECRET_ROOM + heads[1];
+            int from = heads[2];
+            if (from == heads[0] || has(told.hidden[hidden], from)) {
+                return failAtName(AGAIN);
             }
-            int hidden = hider * SECRET_ROOM + taken;
-            advance();
-            if (!findName(false)) {
-                return false;
-            }
-            if (taken == hider || has(told.hidden[hidden], taken)) {
-                return fail(AGAIN);
-            }
-            told.hidden[hidden] |= 1 << taken;
+            told.hidden[hidden] |= 1 << from;
             told.hides++;
-            advance();
             return true;
         }
 
         private boolean readDiary(int[] diary, int isNot) {
             diary[IS_NOT] = isNot;
-            if (!takeWhole(diary, WHEN, 0, told.years - 1) || !takePersonInto(diary, WHO)) {
+            if (!takeWhole(diary, WHEN, 0, told.years - 1) || !takeName(diary, WHO, false)) {
                 return false;
             }
             told.diaries++;
