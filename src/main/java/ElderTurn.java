@@ -1476,10 +1476,15 @@ public final class ElderTurn {
         private static final int DIARY_LINE = 7;
         private static final int NOT_LINE = 8;
 
-        /** Places in the row that is told of the family itself. */
+        /** Places in the row for what a line tells that has no row in the family. */
         private static final int YEARS = 0;
         private static final int LAW = 1;
         private static final int FARE = 2;
+        private static final int IS_BORN = 0;
+        private static final int WHO_DIES = 0;
+        private static final int HIDER = 0;
+        private static final int HIDDEN = 1;
+        private static final int HIDDEN_FROM = 2;
         private static final int HEAD_PARTS = 3;
 
         private static final int NAME_ROOM = PEOPLE_ROOM + SECRET_ROOM;
@@ -1503,7 +1508,6 @@ public final class ElderTurn {
         private final int[] nameLength = new int[NAME_ROOM];
         private final int[] nameNumber = new int[NAME_ROOM];
         private final boolean[] isSecretName = new boolean[NAME_ROOM];
-        /** What a line tells, where it has no row of its own in the family. */
         private final int[] heads = new int[HEAD_PARTS];
 
         void putBytes(int four) {
@@ -1789,12 +1793,15 @@ public final class ElderTurn {
             of[DIES] = NEVER;
             if (!takeNewName(false, told.people) || !takeChoice(of, KIND, seenKind())
                     || !takeWord("branch") || !takeChoice(of, SIDE, seenSide())
-                    || !readAge(of)
+                    || !takeChoice(heads, IS_BORN, seenAge())
+                    || !takeWhole(of, BORN, heads[IS_BORN], heads[IS_BORN] == 0 ? 90 : told.years - 1)
                     || !takeWord("strong") || !takeWhole(of, STRONG, 1, 9)
                     || !takeWord("weighs") || !takeWhole(of, WEIGHS, 0, 9)
                     || !takeWord("frail") || !takeWhole(of, FRAIL, 0, 100)) {
                 return false;
             }
+            // An age is kept as the year of birth, 0 or less, so that all ages are found alike.
+            of[BORN] = heads[IS_BORN] == 0 ? -of[BORN] : of[BORN];
             told.people++;
             return true;
         }
@@ -1822,17 +1829,11 @@ public final class ElderTurn {
             return sees("right") ? 1 : NONE;
         }
 
-        /** An age is kept as the year of birth, 0 or less, so that all ages are found alike. */
-        private boolean readAge(int[] of) {
-            if (sees("born")) {
-                advance();
-                return takeWhole(of, BORN, 1, told.years - 1);
+        private int seenAge() {
+            if (sees("age")) {
+                return 0;
             }
-            if (!takeWord("age") || !takeWhole(of, BORN, 0, 90)) {
-                return false;
-            }
-            of[BORN] = -of[BORN];
-            return true;
+            return sees("born") ? 1 : NONE;
         }
 
         private boolean readPlan(int[] plan) {
@@ -1846,10 +1847,10 @@ public final class ElderTurn {
         }
 
         private boolean readDies() {
-            if (!takeName(heads, 0, false)) {
+            if (!takeName(heads, WHO_DIES, false)) {
                 return false;
             }
-            int[] of = told.person[heads[0]];
+            int[] of = told.person[heads[WHO_DIES]];
             if (of[DIES] != NEVER) {
                 return failAtName(AGAIN);
             }
@@ -1880,12 +1881,13 @@ public final class ElderTurn {
         }
 
         private boolean readHides() {
-            if (!takeName(heads, 0, false) || !takeName(heads, 1, true) || !takeName(heads, 2, false)) {
+            if (!takeName(heads, HIDER, false) || !takeName(heads, HIDDEN, true)
+                    || !takeName(heads, HIDDEN_FROM, false)) {
                 return false;
             }
-            int hidden = heads[0] * SECRET_ROOM + heads[1];
-            int from = heads[2];
-            if (from == heads[0] || has(told.hidden[hidden], from)) {
+            int hidden = heads[HIDER] * SECRET_ROOM + heads[HIDDEN];
+            int from = heads[HIDDEN_FROM];
+            if (from == heads[HIDER] || has(told.hidden[hidden], from)) {
                 return failAtName(AGAIN);
             }
             told.hidden[hidden] |= 1 << from;
