@@ -57,6 +57,8 @@ final class PromiseTest {
         led();
         size();
         trouble();
+        nothingIsLeftOver();
+        allRoomUsed();
         System.out.println(asked + " answers asked, " + wrong + " not as due");
         if (wrong != 0) {
             System.exit(1);
@@ -791,6 +793,13 @@ final class PromiseTest {
             yes(x, "first(" + p + ")", x.first(p), first[p]);
             yes(x, "last(" + p + ")", x.last(p), last[p]);
         }
+        x.law(1);
+        // c, a, b, c, d
+        yes(x, "first(2), year 0", x.first(2), 0);
+        yes(x, "last(3), the last year", x.last(3), 4);
+        ElderTurn once = Texts.of(head(4, "round", 0) + someone("a", "plain", "left", "age 1", 1) + plain("b", 1));
+        yes(once, "once, in year 0", once.last(0), 0);
+        due("who died in year 0", led(once, 0), 0);
         for (int bad : new int[] {-1, 4, LOW, HIGH}) {
             no(x, "first(" + bad + ")", x.first(bad), 1);
             no(x, "last(" + bad + ")", x.last(bad), 1);
@@ -834,6 +843,11 @@ final class PromiseTest {
         }
         yes(x, "know(0), the dead too", x.know(0), 3);
         yes(x, "know(1)", x.know(1), 1);
+        ElderTurn both = Texts.of(head(4, "round", 0) + plain("a", 1) + plain("b", 1)
+                + ";secret s a;secret t a;hides a t b");
+        yes(both, "a knows both", both.knows(0, 0), 3);
+        yes(both, "know(0)", both.know(0), 2);
+        yes(both, "know(1)", both.know(1), 1);
         for (int bad : new int[] {-1, 4, LOW, HIGH}) {
             no(x, "soonest(0, " + bad + ")", x.soonest(0, bad), 1);
             no(x, "soonest(" + bad + ", 0)", x.soonest(bad, 0), 1);
@@ -1035,6 +1049,12 @@ final class PromiseTest {
         no(x, "trade(2, 2)", x.trade(2, 2), -10000, 1);
         ElderTurn one = Texts.of(head(4, "round", 0) + plain("a", 1));
         no(one, "bestTrade() of one", one.bestTrade(), 6);
+        ElderTurn two = Texts.of(head(4, "eldest", 0) + plain("a", 1) + plain("b", 9) + ";plan b 0 to 0 harm 5");
+        yes(two, "bestTrade() of two", two.bestTrade(), 1);
+        yes(two, "b first: with the other one first", two.trade(1, 0), -5);
+        yes(two, "b first: with the other one first", two.trade(0, 1), -5);
+        ElderTurn like = Texts.of(head(4, "round", 0) + THREE);
+        yes(like, "bestTrade() without harm", like.bestTrade(), 1);
         due("bestTrade() of FULL", Texts.of(FULL).bestTrade(), 3);
     }
 
@@ -1423,5 +1443,74 @@ final class PromiseTest {
         due("there is none", x.trouble(), 6);
         x.stands(0, true);
         due("it wasn't", x.trouble(), 0);
+    }
+
+    private static void nothingIsLeftOver() {
+        promise = "nothing is left over";
+        String two = head(4, "round", 0) + plain("a", 1) + plain("b", 1);
+        ElderTurn x = Texts.of(two + ";secret s a;hides a s b;plan a 0 to 3 harm 9;dies a 3;diary 0 b");
+        yes(x, "kept from b", x.kept(0, 3), 2);
+        yes(x, "chain(0, 0)", x.chain(0, 0), 0);
+        yes(x, "row(1)", x.row(1), 9);
+        Texts.family(x, two + ";secret t b");
+        yes(x, "kept from nobody", x.kept(0, 3), 0);
+        yes(x, "chain(0, 0) is another one", x.chain(0, 0), 2);
+        yes(x, "chain(0, 1)", x.chain(0, 1), 0);
+        yes(x, "row(1) without plans", x.row(1), 0);
+        yes(x, "harm without plans", x.harmAll(), 0);
+        yes(x, "a lives", x.person(0, 6), -2);
+        yes(x, "fits", x.fits(), 31);
+        yes(x, "a is told in year 2", x.knows(0, 2), 1);
+        x.death(0, 1);
+        yes(x, "and isn't if he dies", x.knows(0, 3), 0);
+        x.undo();
+        yes(x, "but else he is", x.soonest(0, 0), 2);
+    }
+
+    /** The greatest family: as many of all as there is room for on the tape. */
+    private static void allRoomUsed() {
+        promise = "all room used";
+        StringBuilder text = new StringBuilder(head(24, "eldest", 99));
+        for (int p = 0; p < 10; p++) {
+            char name = (char) ('a' + p);
+            text.append(";person ").append(name).append(" plain branch left age ").append(9 - p)
+                    .append(" strong 9 weighs 9 frail 1");
+        }
+        for (int s = 0; s < 8; s++) {
+            text.append(";secret ").append((char) ('k' + s)).append(" j");
+            text.append(";hides j ").append((char) ('k' + s)).append(" a");
+        }
+        for (int p = 0; p < 9; p++) {
+            text.append(";plan ").append((char) ('a' + p)).append(" 0 to 3 harm 1");
+        }
+        ElderTurn x = Texts.of(text.toString());
+        for (int year = 0; year < 24; year++) {
+            yes(x, "elder(" + year + ")", x.elder(year), year % 10);
+            yes(x, "there(" + year + ")", x.there(year), 1023);
+            yes(x, "box(" + year + ")", x.box(year), year < 9 ? 0 : 255);
+            yes(x, "kept(7, " + year + ")", x.kept(7, year), year < 9 ? -2 : year < 11 ? 1 : 0);
+            yes(x, "knows(9, " + year + ")", x.knows(9, year), 255);
+            yes(x, "turnsOf(9, " + year + ")", x.turnsOf(9, year), (year + 1) / 10);
+        }
+        yes(x, "know(7)", x.know(7), 10);
+        yes(x, "soonest(7, 0)", x.soonest(7, 0), 20);
+        yes(x, "last(9)", x.last(9), 19);
+        yes(x, "first(9)", x.first(9), 9);
+        yes(x, "harmAll()", x.harmAll(), 4);
+        yes(x, "harmOf(9)", x.harmOf(9), 0);
+        yes(x, "fair()", x.fair(), 1);
+        yes(x, "the very last row", x.row(4), 0);
+        row(x, 4, 9, 9, 9, 9);
+        yes(x, "chain(7, 8)", x.chain(7, 8), 2);
+        yes(x, "chain(7, 0)", x.chain(7, 0), 3);
+        yes(x, "bestTrade()", x.bestTrade(), 9);
+        yes(x, "trade(0, 9): a never has a turn, so that it is his each year", x.trade(0, 9), -4);
+        yes(x, "power(9)", x.power(9), 126);
+        due("led(0)", led(x, 0), -99);
+        for (int i = 0; i < 8; i++) {
+            yes(x, "buy", x.buy(23, 3, 9, 99));
+        }
+        yes(x, "elder(23)", x.elder(23), 9);
+        yes(x, "purse(9)", x.purse(9), 99);
     }
 }

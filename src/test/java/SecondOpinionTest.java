@@ -30,7 +30,7 @@ final class SecondOpinionTest {
             same(run, told, "row/chain without a family", x, m, r, 22, isSmall);
         }
         for (int round = 0; round < 3; round++) {
-            String text = RandomTexts.text(r, isSmall ? 1 + r.nextInt(5) : 1 + r.nextInt(10));
+            String text = RandomTexts.text(r, isSmall ? 1 + r.nextInt(5) : run % 16 == 0 ? 10 : 1 + r.nextInt(10));
             if (r.nextInt(3) == 0) {
                 text = RandomTexts.broken(r, text);
             }
