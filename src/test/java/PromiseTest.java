@@ -1465,6 +1465,12 @@ final class PromiseTest {
         yes(x, "and isn't if he dies", x.knows(0, 3), 0);
         x.undo();
         yes(x, "but else he is", x.soonest(0, 0), 2);
+        Texts.family(x, two + ";secret s a");
+        yes(x, "what the first family hid is known to the third", x.kept(0, 3), 0);
+        Texts.family(x, two + ";secret s a;hides a s b;odd");
+        due("a faulty one", x.fault(), 1);
+        Texts.family(x, two + ";secret s a");
+        yes(x, "what a faulty text hid", x.kept(0, 3), 0);
     }
 
     /** The greatest family: as many of all as there is room for on the tape. */
