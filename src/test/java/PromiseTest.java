@@ -2,19 +2,11 @@ import java.lang.reflect.Constructor;
 import java.lang.reflect.Field;
 import java.lang.reflect.Method;
 import java.lang.reflect.Modifier;
-import java.util.NoSuchElementException;
 import java.util.Set;
 import java.util.TreeSet;
 
 /** Promise by promise: ordinary inputs, the edges that the document names, and wrong inputs. */
-final class PromiseTest {
-    private static int wrong = 0;
-    private static int asked = 0;
-    private static String promise = "";
-
-    private static final int LOW = Integer.MIN_VALUE;
-    private static final int HIGH = Integer.MAX_VALUE;
-
+final class PromiseTest extends Checks {
     public static void main(String[] args) {
         face();
         newObject();
@@ -59,99 +51,7 @@ final class PromiseTest {
         trouble();
         nothingIsLeftOver();
         allRoomUsed();
-        System.out.println(asked + " answers asked, " + wrong + " not as due");
-        if (wrong != 0) {
-            System.exit(1);
-        }
-    }
-
-    // ---- how it is asked
-
-    private static void due(String what, long got, long want) {
-        asked++;
-        if (got != want) {
-            wrong++;
-            System.out.println(promise + ": " + what + " answered " + got + ", due is " + want);
-        }
-    }
-
-    private static void due(String what, boolean got, boolean want) {
-        due(what, got ? 1 : 0, want ? 1 : 0);
-    }
-
-    /** A call that is refused: what it answers, and why. */
-    private static void no(ElderTurn x, String what, long got, long want, int why) {
-        due(what, got, want);
-        due(what + ": trouble", x.trouble(), why);
-    }
-
-    private static void no(ElderTurn x, String what, long got, int why) {
-        no(x, what, got, ElderTurn.NONE, why);
-    }
-
-    private static void no(ElderTurn x, String what, boolean got, int why) {
-        no(x, what, got ? 1 : 0, 0, why);
-    }
-
-    private static void yes(ElderTurn x, String what, long got, long want) {
-        no(x, what, got, want, 0);
-    }
-
-    private static void yes(ElderTurn x, String what, boolean got) {
-        no(x, what, got ? 1 : 0, 1, 0);
-    }
-
-    private static void elders(ElderTurn x, int... want) {
-        for (int year = 0; year < want.length; year++) {
-            yes(x, "elder(" + year + ")", x.elder(year), want[year]);
-        }
-    }
-
-    private static int led(ElderTurn x, int i) {
-        try {
-            return x.led(i);
-        } catch (NoSuchElementException none) {
-            return -99;
-        }
-    }
-
-    private static String head(int years, String law, int fare) {
-        return "family years " + years + " law " + law + " fare " + fare;
-    }
-
-    /** The line of a person of which only some is of weight. */
-    private static String someone(String name, String kind, String side, String age, int strong) {
-        return ";person " + name + " " + kind + " branch " + side + " " + age + " strong " + strong
-                + " weighs 1 frail 0";
-    }
-
-    private static String plain(String name, int age) {
-        return someone(name, "plain", "left", "age " + age, 9);
-    }
-
-    private static final String THREE = plain("a", 40) + plain("b", 30) + plain("c", 50);
-
-    /** A family of which most is told once. */
-    private static final String FULL = "family years 6 law eldest fare 5"
-            + ";person a plain branch left age 40 strong 3 weighs 2 frail 10"
-            + ";person b twin branch right age 30 strong 9 weighs 1 frail 20"
-            + ";person c cousin branch left age 50 strong 1 weighs 3 frail 50"
-            + ";person d soldier branch right born 2 strong 2 weighs 0 frail 0"
-            + ";plan a 1 to 2 harm 7;plan b 0 to 5 harm 3;plan c 0 to 0 harm 9"
-            + ";secret k a;secret m c;hides a k b;diary 0 c;not 2 a";
-
-    private static void fault(String text, int number, int place) {
-        ElderTurn x = new ElderTurn();
-        no(x, "'" + text + "'", Texts.family(x, text), 4);
-        due("'" + text + "': fault", x.fault(), number);
-        due("'" + text + "': where", x.where(), place);
-    }
-
-    private static void whole(String text, int people) {
-        ElderTurn x = new ElderTurn();
-        yes(x, "'" + text + "'", Texts.family(x, text), people);
-        due("'" + text + "': fault", x.fault(), 0);
-        due("'" + text + "': where", x.where(), -1);
+        end();
     }
 
     // ---- the face and promises 1 to 5
