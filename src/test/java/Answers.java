@@ -23,6 +23,25 @@ final class Answers {
         return a.lines;
     }
 
+    /** What the years and all that is found from them answer, but not what can be undone, marks, or the tape. */
+    static List<String> ofYears(ElderTurn x) {
+        Answers a = new Answers(x);
+        a.years();
+        a.all();
+        a.others();
+        for (int p = 0; p < x.size(3); p++) {
+            a.add("dies " + p, x.person(p, 6));
+            a.add("first(" + p + ")", x.first(p));
+            a.add("last(" + p + ")", x.last(p));
+            a.add("harmOf(" + p + ")", x.harmOf(p));
+            a.add("soonest(0, " + p + ")", x.soonest(0, p));
+        }
+        a.add("law", x.size(1));
+        a.add("bought", x.size(5));
+        a.add("seed", x.size(9));
+        return a.lines;
+    }
+
     private void add(String call, long answer) {
         lines.add(call + " = " + answer);
     }
