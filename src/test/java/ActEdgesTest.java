@@ -33,6 +33,7 @@ final class ActEdgesTest extends Checks {
         backIsAsByTheMark();
         backForgetsWhatCanBeUndone();
         backOverAndOver();
+        backToOtherBuys();
         undoLeavesMarks();
         familyForgetsAll();
         end();
@@ -57,7 +58,7 @@ final class ActEdgesTest extends Checks {
         for (int year = 0; year < 8; year++) {
             lines.add("elder(" + year + ") = " + x.elder(year) + ", there(" + year + ") = " + x.there(year));
         }
-        lines.add("row(2) = " + x.row(2) + ", rowAt(2, 1) = " + x.rowAt(2, 1) + ", chain(0, 2) = " + x.chain(0, 2));
+        lines.add("row(2) = " + x.row(2) + ", rowAt(2, 1) = " + x.rowAt(2, 1) + ", chain(0, 2) = " + (x.size(6) == 0 ? 0 : x.chain(0, 2)));
         lines.add("purse(0) = " + x.purse(0) + ", size(1) = " + x.size(1) + ", size(5) = " + x.size(5));
         return lines;
     }
@@ -483,6 +484,43 @@ final class ActEdgesTest extends Checks {
             yes(x, "purse", x.purse(1), 5);
             yes(x, "lives", x.person(0, 6), -2);
         }
+    }
+
+    private static void backToOtherBuys() {
+        promise = "All is as by a MARK: what was bought then, not what came in its place";
+        ElderTurn x = Texts.of(head(4, "round", 0) + THREE);
+        x.buy(0, 0, 1, 5);
+        x.mark();
+        x.undo();
+        x.buy(0, 0, 2, 9);
+        x.mark();
+        x.undo();
+        x.buy(1, 1, 0, 7);
+        elders(x, 0, 0, 1, 2);
+        for (int i = 0; i < 2; i++) {
+            yes(x, "back(0)", x.back(0));
+            elders(x, 1, 2, 0, 1);
+            yes(x, "purse(0)", x.purse(0), -5);
+            yes(x, "back(1)", x.back(1));
+            elders(x, 2, 0, 1, 2);
+            yes(x, "purse(0)", x.purse(0), -9);
+        }
+        // All eight, each with its four numbers.
+        ElderTurn y = Texts.of(head(8, "round", 0) + THREE);
+        for (int i = 0; i < 8; i++) {
+            y.buy(i, i % 3, (i + 1) % 3, 10 * i);
+        }
+        y.mark();
+        List<String> want = look(y);
+        for (int i = 0; i < 8; i++) {
+            y.undo();
+        }
+        for (int i = 0; i < 8; i++) {
+            y.buy(7 - i, 2, 0, i);
+        }
+        due("others", look(y).equals(want), false);
+        yes(y, "back(0)", y.back(0));
+        same("as by the mark", look(y), want);
     }
 
     private static void undoLeavesMarks() {
