@@ -86,6 +86,12 @@ final class FormTest {
             if (m.group(5).split(",").length > 7) {
                 complain(m.group(4) + " takes too many parameters");
             }
+            for (String line : lines.subList(i + 1, end)) {
+                if (Character.isLowerCase(m.group(4).charAt(0)) && line.matches(".*\\bnew\\b.*")
+                        && !line.contains("throw new ")) {
+                    complain(m.group(4) + " makes an object: " + line.strip());
+                }
+            }
             bodies.computeIfAbsent(m.group(4), k -> new ArrayList<>()).addAll(lines.subList(i + 1, end));
             if (m.group(2).contains("public")) {
                 faces.add(m.group(4));
